@@ -1,0 +1,81 @@
+import java.lang.reflect.InvocationTargetException;
+import java.lang.reflect.Method;
+
+/**
+ * Runs of calls, written as text, each on a new ScopeKeeper. A line is one of
+ *   call(1, 2)              it throws nothing
+ *   call(1, 2) = 3          it answers this (an int, true or false)
+ *   call(1, 2) throws E     it throws exactly this exception
+ * and what stands behind # is a remark.
+ */
+final class Runs {
+  private int calls = 0;
+  private int wrong = 0;
+
+  void run(String name, String... parts) {
+    ScopeKeeper keeper = new ScopeKeeper();
+    for (String line : String.join("\n", parts).split("\n")) {
+      String words = line.replaceAll("#.*", "").trim();
+      if (!words.isEmpty()) {
+        check(name, keeper, words);
+      }
+    }
+  }
+
+  /** Ends the program, with exit code 1 if a call was not answered as is due. */
+  void end() {
+    if (calls == 0 || wrong > 0) {
+      System.out.println(wrong + " of " + calls + " calls are not as due");
+      System.exit(1);
+    }
+  }
+
+  /** The same lines for i from first to last, with every {i} replaced by it. */
+  static String each(int first, int last, String lines) {
+    StringBuilder all = new StringBuilder();
+    for (int i = first; i <= last; i++) {
+      all.append(lines.replace("{i}", String.valueOf(i))).append('\n');
+    }
+    return all.toString();
+  }
+
+  private void check(String name, ScopeKeeper keeper, String line) {
+    String call = line.substring(0, line.indexOf(')') + 1);
+    String due = line.substring(call.length()).trim();
+    String got = answer(keeper, call);
+    calls++;
+    boolean right = due.isEmpty() ? !got.startsWith("throws") : got.equals(due);
+    if (!right) {
+      wrong++;
+      System.out.println(name + ": " + call + " was: " + got + "; due: " + due);
+    }
+  }
+
+  private static String answer(ScopeKeeper keeper, String call) {
+    String name = call.substring(0, call.indexOf('('));
+    String inner = call.substring(name.length() + 1, call.length() - 1).trim();
+    String[] words = inner.isEmpty() ? new String[0] : inner.split("\\s*,\\s*");
+    try {
+      Method method = methodNamed(name);
+      Object[] arguments = new Object[words.length];
+      for (int i = 0; i < words.length; i++) {
+        arguments[i] = method.getParameterTypes()[i] == boolean.class
+            ? (Object) Boolean.valueOf(words[i]) : (Object) Integer.valueOf(words[i]);
+      }
+      return "= " + method.invoke(keeper, arguments);
+    } catch (InvocationTargetException e) {
+      return "throws " + e.getCause().getClass().getSimpleName();
+    } catch (IllegalAccessException e) {
+      throw new IllegalStateException(call, e);
+    }
+  }
+
+  private static Method methodNamed(String name) {
+    for (Method method : ScopeKeeper.class.getMethods()) {
+      if (method.getName().equals(name)) {
+        return method;
+      }
+    }
+    throw new IllegalArgumentException("no method " + name);
+  }
+}
