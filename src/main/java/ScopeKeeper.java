@@ -23,7 +23,6 @@ public final class ScopeKeeper {
 
   private static final int MODE_NETWORK = 0;
   private static final int MODE_CACHE_FIRST = 1;
-  private static final int MODE_NETWORK_FIRST = 2;
   private static final int MODE_CONTENT = 3;
 
   private static final int STATE_INSTALLING = 1;
@@ -167,6 +166,7 @@ public final class ScopeKeeper {
         control(c, claiming.active);
       }
     }
+    // A worker that keeps its client has nothing to settle, so those that changed are enough.
     for (int i = 0; i < changed; i++) {
       settleAfterLoss(claimedFrom[i]);
     }
@@ -198,6 +198,8 @@ public final class ScopeKeeper {
       return controller.content;
     }
     Cache cache = controller.cache;
+    // What is left are the cache first, and the network first (mode 2), for which the cache
+    // answers only when the network cannot.
     boolean cacheAnswers = mode == MODE_CACHE_FIRST || !networkUp;
     if (cacheAnswers && cache.has(path)) {
       return cache.valueOf(path);
@@ -629,10 +631,8 @@ public final class ScopeKeeper {
 
   private Registration addRegistration(int scope) {
     Registration added = new Registration(scope);
-    if (registrationCount < REGISTRATION_LIMIT) {
-      registrations[registrationCount] = added;
-      registrationCount++;
-    }
+    registrations[registrationCount] = added;
+    registrationCount++;
     return added;
   }
 
