@@ -263,8 +263,8 @@ public final class ScopeKeeper {
   }
 
   public int trace(int k) throws IndexOutOfBoundsException {
-    if (k < 0 || k >= happened.size) {
-      throw new IndexOutOfBoundsException("the trace has no such number");
+    if (k < 0 || k >= happened.kept) {
+      throw new IndexOutOfBoundsException("the trace has kept no such number");
     }
     return happened.numbers[k];
   }
@@ -293,7 +293,7 @@ public final class ScopeKeeper {
       case 4:
         return jobsNotEnded();
       case 5:
-        return happened.size;
+        return happened.count;
       default:
         throw new IllegalArgumentException("no such what");
     }
@@ -765,10 +765,11 @@ public final class ScopeKeeper {
     }
   }
 
-  /** What happened, as numbers; only the first ones are kept. */
+  /** What happened, as numbers; all are counted, but only the first ones are kept. */
   private static final class Trace {
     private final int[] numbers = new int[TRACE_LIMIT];
-    private int size = 0;
+    private int kept = 0;
+    private int count = 0;
 
     void workerComesTo(int w, int state) {
       append(8 * w + state);
@@ -783,10 +784,11 @@ public final class ScopeKeeper {
     }
 
     private void append(int number) {
-      if (size < TRACE_LIMIT) {
-        numbers[size] = number;
-        size++;
+      if (kept < TRACE_LIMIT) {
+        numbers[kept] = number;
+        kept++;
       }
+      count++;
     }
   }
 }

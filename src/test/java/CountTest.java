@@ -88,6 +88,73 @@ public final class CountTest {
         step(0) = 8
         count(34) = 0
         """);
+    runs.run("the numbers of the trace, also those that are not kept",
+        """
+        count(5) = 0
+        job(0, 1, 0) = 0
+        step(1) = 0
+        step(1) = 0
+        count(5) = 4
+        """,
+        Runs.each(1, 55, """
+            job(1, 1, 0) = {i}
+            step(1) = {i}
+            """),
+        """
+        count(5) = 59
+        trace(58) = 1055
+        trace(59) throws IndexOutOfBoundsException
+        job(1, 1, 0) = 56
+        step(1) = 56
+        count(5) = 60
+        trace(59) = 1056
+        job(1, 1, 0) = 57
+        step(1) = 57
+        count(5) = 61                # the first that is not kept
+        trace(59) = 1056
+        trace(60) throws IndexOutOfBoundsException
+        job(1, 1, 0) = 58
+        step(1) = 58
+        job(1, 1, 0) = 59
+        step(1) = 59
+        count(5) = 63
+        trace(62) throws IndexOutOfBoundsException
+        """,
+        Runs.each(0, 7, "open(0) = {i}"),
+        """
+        count(5) = 63                # a client that is opened is no number
+        close(0) = 0
+        open(1) = 0
+        close(0) = 1
+        count(5) = 63
+        """);
+    runs.run("a worker's states and claimed clients count behind the sixtieth too",
+        Runs.each(0, 56, """
+            job(1, 1, 0) = {i}
+            step(1) = {i}
+            """),
+        Runs.each(0, 7, "open(1) = {i}"),
+        """
+        job(0, 1, 0) = 57
+        step(1) = 57
+        step(1) = 57
+        count(5) = 61
+        claim(1) = 8
+        count(5) = 69
+        claim(1) = 0
+        count(5) = 69
+        serve(0, 1, 0, 0, 0)
+        job(1, 1, 0) = 58
+        step(1) = 58
+        count(5) = 70
+        step(1) = 58
+        count(5) = 72
+        skip(1) = 2
+        count(5) = 82                # redundant, activated, and eight clients
+        count(6) throws IllegalArgumentException
+        step(1) throws NoSuchElementException
+        count(5) = 82
+        """);
     runs.run("wrong arguments", """
         count(-1) throws IllegalArgumentException
         count(6) throws IllegalArgumentException

@@ -4,15 +4,22 @@ import java.util.List;
 /**
  * Long runs of calls, the same ones each time. After each call it looks at what must hold in
  * every state, that a refused call threw what the document names for it and changed nothing,
- * and that the trace tells the states of all workers and which jobs ended.
+ * that the trace tells the states of all workers and which jobs ended, and that its count grows
+ * by all that happened, kept or not.
  */
 public final class RandomRunsTest {
   private static final int RUNS = 400;
   private static final int CALLS = 512;
+  private static final int KEPT = 60;
   private static final int[] NUMBERS = {0, 1, 1, 28, 28, 757, 2, 55, 26, 27, 531440, -1};
 
   private long seed;
   private ScopeKeeper keeper;
+  private final int[] statesBefore = new int[41];
+  private final int[] controllersBefore = new int[8];
+  private final boolean[] thereBefore = new boolean[8];
+  private int endedBefore = 0;
+  private int happened = 0;
   private final List<String> calls = new ArrayList<>();
 
   public static void main(String[] args) {
@@ -149,7 +156,7 @@ public final class RandomRunsTest {
     for (int j = 0; j < keeper.count(3); j++) {
       all.append(keeper.outcome(j)).append(' ');
     }
-    for (int k = 0; k < keeper.count(5); k++) {
+    for (int k = 0; k < Math.min(keeper.count(5), KEPT); k++) {
       all.append(keeper.trace(k)).append(' ');
     }
     return all.toString();
@@ -160,10 +167,36 @@ public final class RandomRunsTest {
     if (fault == null) {
       fault = faultOfClients();
     }
-    if (fault == null && keeper.count(5) < 60) {
+    if (fault == null && keeper.count(5) <= KEPT) {
       fault = faultOfTrace();
     }
+    happened += happenedInCall();
+    if (fault == null && keeper.count(5) != happened) {
+      fault = "the trace has " + keeper.count(5) + " numbers, but there happened " + happened;
+    }
     return fault;
+  }
+
+  /** How many numbers of the trace the last call made, seen from what it changed. */
+  private int happenedInCall() {
+    int made = 0;
+    for (int w = 1; w <= keeper.count(1); w++) {
+      int state = keeper.worker(w, 0);
+      // A worker becomes redundant from any state, and comes to the others one by one.
+      made += state == 4 ? Math.min(1, state - statesBefore[w]) : state - statesBefore[w];
+      statesBefore[w] = state;
+    }
+    for (int c = 0; c < 8; c++) {
+      int controller = keeper.count(10 + c);
+      boolean there = keeper.count(20 + c) >= 0;
+      made += there && thereBefore[c] && controller != controllersBefore[c] ? 1 : 0;
+      controllersBefore[c] = controller;
+      thereBefore[c] = there;
+    }
+    int ended = keeper.count(3) - keeper.count(4);
+    made += ended - endedBefore;
+    endedBefore = ended;
+    return made;
   }
 
   private String faultOfRegistrations() {

@@ -62,7 +62,8 @@ public final class TraceTest {
         trace(57) = 1057
         trace(59) = 10
         trace(60) throws IndexOutOfBoundsException
-        count(5) = 60
+        trace(61) throws IndexOutOfBoundsException
+        count(5) = 62                # what is not kept is counted
         worker(1, 0) = 3             # what is not kept happens all the same
         outcome(58) = 1
         open(1) = 0
@@ -74,7 +75,8 @@ public final class TraceTest {
         trace(0) = 1000
         trace(59) = 10
         trace(60) throws IndexOutOfBoundsException
-        count(5) = 60
+        trace(63) throws IndexOutOfBoundsException
+        count(5) = 64
         """);
     runs.run("wrong arguments", """
         job(1, 1, 0) = 0
