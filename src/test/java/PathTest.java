@@ -1,5 +1,18 @@
-/** The term PATH, by every call that takes one: which numbers are PATHS, and which BEGINS which. */
+import java.util.ArrayList;
+import java.util.Arrays;
+import java.util.List;
+import java.util.NoSuchElementException;
+
+/**
+ * The term PATH, by every call that takes one: which numbers are PATHS, and which BEGINS which.
+ * All numbers and many pairs are tried too, against paths that are made letter by letter.
+ */
 public final class PathTest {
+  private static final int MOST_LETTERS = 4;
+  private static final int BASE = 27;
+  private static final int MOST_CALLS = 512;
+  private static final int[] SOME_LETTERS = {1, 2, 26};
+
   private static final int[] PATHS = {0, 1, 26, 28, 53, 728, 757, 19682, 20440, 531440};
   private static final int[] NO_PATHS = {
     -1, 27, 54, 702, 729, 730, 756, 19683, 19684, 19710, 20412, 20413, 20439, 511758, 531414,
@@ -56,6 +69,104 @@ public final class PathTest {
     begins(runs, 531440, 19682, false);
     begins(runs, 19682, 531440, true);
     runs.end();
+    if (!everyNumberIsRight() || !everyPairIsRight()) {
+      System.exit(1);
+    }
+  }
+
+  /** "a number is a PATH if it is 0 to 531440 and no digit 0 .. stands before another digit" */
+  private static boolean everyNumberIsRight() {
+    boolean[] isPath = new boolean[531441];
+    int[] letters = new int[BASE - 1];
+    Arrays.setAll(letters, i -> i + 1);
+    for (List<Integer> path : pathsOf(letters)) {
+      isPath[numberOf(path)] = true;
+    }
+    ScopeKeeper keeper = new ScopeKeeper();
+    for (int number = -MOST_CALLS; number < isPath.length + BASE * BASE; number++) {
+      if (number % MOST_CALLS == 0) {
+        keeper = new ScopeKeeper();
+      }
+      boolean due = number >= 0 && number < isPath.length && isPath[number];
+      if (isTakenAsPath(keeper, number) != due) {
+        System.out.println(number + " is taken as a path: " + !due);
+        return false;
+      }
+    }
+    return true;
+  }
+
+  /** By a step in an empty row, which is refused in another way if the number is no path. */
+  private static boolean isTakenAsPath(ScopeKeeper keeper, int number) {
+    try {
+      keeper.step(number);
+      throw new AssertionError("there is no job in the row of " + number);
+    } catch (IllegalArgumentException e) {
+      return false;
+    } catch (NoSuchElementException e) {
+      return true;
+    }
+  }
+
+  /** "PATH x BEGINS y if y's first LETTERS are those of x (also if x is y, or empty)" */
+  private static boolean everyPairIsRight() {
+    List<List<Integer>> paths = pathsOf(SOME_LETTERS);
+    for (List<Integer> x : paths) {
+      for (List<Integer> y : paths) {
+        boolean due = x.size() <= y.size() && y.subList(0, x.size()).equals(x);
+        if (isBroadEnough(numberOf(x), numberOf(y)) != due
+            || isControlled(numberOf(x), numberOf(y)) != due) {
+          System.out.println(x + " begins " + y + ": " + !due);
+          return false;
+        }
+      }
+    }
+    return true;
+  }
+
+  private static boolean isBroadEnough(int broad, int scope) {
+    ScopeKeeper keeper = new ScopeKeeper();
+    keeper.serve(0, 0, broad, 0, 0);
+    keeper.job(0, scope, 0);
+    keeper.step(scope);
+    return keeper.outcome(0) != -1;
+  }
+
+  private static boolean isControlled(int scope, int path) {
+    ScopeKeeper keeper = new ScopeKeeper();
+    keeper.job(0, scope, 0);
+    keeper.step(scope);
+    keeper.step(scope);
+    keeper.open(path);
+    return keeper.count(10) == 1;
+  }
+
+  /** All rows of 0 to 4 of these letters. */
+  private static List<List<Integer>> pathsOf(int[] letters) {
+    List<List<Integer>> paths = new ArrayList<>();
+    paths.add(List.of());
+    int shorter = 0;
+    for (int length = 1; length <= MOST_LETTERS; length++) {
+      int end = paths.size();
+      for (; shorter < end; shorter++) {
+        for (int letter : letters) {
+          List<Integer> longer = new ArrayList<>(paths.get(shorter));
+          longer.add(letter);
+          paths.add(longer);
+        }
+      }
+    }
+    return paths;
+  }
+
+  private static int numberOf(List<Integer> path) {
+    int number = 0;
+    int power = 1;
+    for (int letter : path) {
+      number += letter * power;
+      power *= BASE;
+    }
+    return number;
   }
 
   private static void begins(Runs runs, int start, int path, boolean does) {

@@ -1,25 +1,48 @@
 import java.lang.reflect.InvocationTargetException;
 import java.lang.reflect.Method;
+import java.util.ArrayList;
+import java.util.List;
 
 /**
  * Runs of calls, written as text, each on a new ScopeKeeper. A line is one of
  *   call(1, 2)              it throws nothing
  *   call(1, 2) = 3          it answers this (an int, true or false)
  *   call(1, 2) throws E     it throws exactly this exception
- * and what stands behind # is a remark.
+ * and what stands behind # is a remark. A run has at most 512 calls: of later ones the document
+ * promises nothing.
  */
 final class Runs {
+  /** The numbers at the ends of an int, which every argument is tried with. */
+  static final int[] ENDS = {Integer.MIN_VALUE, Integer.MIN_VALUE + 1, Integer.MAX_VALUE - 1,
+    Integer.MAX_VALUE};
+
+  private static final int MOST_CALLS = 512;
+
   private int calls = 0;
   private int wrong = 0;
 
   void run(String name, String... parts) {
     ScopeKeeper keeper = new ScopeKeeper();
+    List<String> lines = linesOf(parts);
+    if (lines.isEmpty() || lines.size() > MOST_CALLS) {
+      wrong++;
+      System.out.println(name + ": a run of " + lines.size() + " calls");
+    }
+    for (String line : lines) {
+      check(name, keeper, line);
+    }
+  }
+
+  /** The lines of a run without remarks and empty ones. */
+  static List<String> linesOf(String... parts) {
+    List<String> lines = new ArrayList<>();
     for (String line : String.join("\n", parts).split("\n")) {
       String words = line.replaceAll("#.*", "").trim();
       if (!words.isEmpty()) {
-        check(name, keeper, words);
+        lines.add(words);
       }
     }
+    return lines;
   }
 
   /** Ends the program, with exit code 1 if a call was not answered as is due. */
@@ -30,10 +53,19 @@ final class Runs {
     }
   }
 
+  /** The same lines for each of the numbers, with every {i} replaced by it. */
+  static String forAll(int[] numbers, String lines) {
+    StringBuilder all = new StringBuilder();
+    for (int i : numbers) {
+      all.append(each(i, i, lines));
+    }
+    return all.toString();
+  }
+
   /** The same lines for i from first to last, with every {i} replaced by it. */
   static String each(int first, int last, String lines) {
     StringBuilder all = new StringBuilder();
-    for (int i = first; i <= last; i++) {
+    for (long i = first; i <= last; i++) {
       all.append(lines.replace("{i}", String.valueOf(i))).append('\n');
     }
     return all.toString();
@@ -51,7 +83,8 @@ final class Runs {
     }
   }
 
-  private static String answer(ScopeKeeper keeper, String call) {
+  /** What the call answers, as a line tells it: "= 3", "= null" for nothing, or "throws E". */
+  static String answer(ScopeKeeper keeper, String call) {
     String name = call.substring(0, call.indexOf('('));
     String inner = call.substring(name.length() + 1, call.length() - 1).trim();
     String[] words = inner.isEmpty() ? new String[0] : inner.split("\\s*,\\s*");
