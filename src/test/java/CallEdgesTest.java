@@ -530,6 +530,38 @@ public final class CallEdgesTest {
         count(10) = 3
         skip(1) throws IllegalStateException
         """);
+    runs.run("9: ACTIVATION is tried, also if it is LEAVING", ACTIVE, """
+        open(1) = 0
+        serve(0, 1, 0, 0, 0)
+        job(1, 1, 0)
+        step(1)
+        step(1)
+        job(2, 1, 0)
+        step(1)
+        registration(1, 4) = 1
+        skip(1) = 2
+        registration(1, 2) = 0
+        registration(1, 3) = 2
+        registration(1, 4) = 1
+        skip(1) throws IllegalStateException
+        close(0) = 2
+        count(0) = 0
+        """);
+    runs.run("9: SKIPS from now on: the WORKER, not the REGISTRATION", ACTIVE, """
+        open(1) = 0
+        serve(0, 1, 0, 0, 0)
+        job(1, 1, 0)
+        step(1)
+        skip(1) = 2
+        step(1)
+        registration(1, 3) = 2
+        serve(0, 2, 0, 0, 0)
+        job(1, 1, 0)
+        step(1)
+        step(1)
+        registration(1, 2) = 3
+        registration(1, 3) = 2
+        """);
   }
 
   private static String controlledWith(int mode) {
@@ -637,6 +669,47 @@ public final class CallEdgesTest {
         fetch(-1, 1) throws NoSuchElementException
         close(3) = 0
         fetch(3, 1) throws NoSuchElementException
+        fetch(3, 27) throws IllegalArgumentException    # it is no path, either
+        network(false, 0)
+        fetch(3, 1) throws NoSuchElementException       # and the network is down
+        """);
+    runs.run("10: (0 for none): MODE 0", "open(1) = 0", ACTIVE, """
+        network(true, 100)
+        fetch(0, 1) = 101
+        network(true, 200)
+        fetch(0, 1) = 201           # nothing is kept
+        worker(1, 4) = 0
+        """);
+    runs.run("10: 0: what THE NETWORK answers", controlledWith(0), """
+        fetch(0, 1) = 101
+        network(true, 200)
+        fetch(0, 1) = 201
+        worker(1, 4) = 0
+        """);
+    runs.run("10: 1: the value in its CACHE, if the PATH is there, though it is UP",
+        controlledWith(1), """
+        fetch(0, 1) = 101
+        fetch(0, 2) = 102
+        network(true, 200)
+        fetch(0, 1) = 101
+        fetch(0, 3) = 203
+        worker(1, 4) = 3
+        worker(1, 10) = 1           # it is not kept again
+        worker(1, 20) = 101
+        """);
+    runs.run("10: 2: what THE NETWORK answers, though the PATH is in the CACHE",
+        controlledWith(2), """
+        fetch(0, 1) = 101
+        network(true, 200)
+        fetch(0, 1) = 201
+        worker(1, 4) = 1
+        worker(1, 20) = 201
+        """);
+    runs.run("10: 3: its CONTENT, not what the SCRIPT has now", controlledWith(3), """
+        serve(0, 78, 0, 0, 0)
+        fetch(0, 1) = 77
+        fetch(0, 0) = 77
+        worker(1, 4) = 0
         """);
     runs.run("10: THE NETWORK is DOWN, and there is nothing else: none", """
         open(1) = 0

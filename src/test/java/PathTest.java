@@ -14,9 +14,11 @@ public final class PathTest {
   private static final int[] SOME_LETTERS = {1, 2, 26};
 
   private static final int[] PATHS = {0, 1, 26, 28, 53, 728, 757, 19682, 20440, 531440};
+  /** Among them 551881 and 14348906, the least and the greatest of five letters. */
   private static final int[] NO_PATHS = {
-    -1, 27, 54, 702, 729, 730, 756, 19683, 19684, 19710, 20412, 20413, 20439, 511758, 531414,
-    531441, 531442, Integer.MAX_VALUE, Integer.MIN_VALUE};
+    -1, -28, -20440, -531440, 27, 54, 702, 729, 730, 756, 19683, 19684, 19710, 20412, 20413, 20439,
+    511758, 531414, 531441, 531442, 551881, 14348906, 14908347, Integer.MAX_VALUE - 1,
+    Integer.MAX_VALUE, Integer.MIN_VALUE, Integer.MIN_VALUE + 1};
 
   public static void main(String[] args) {
     Runs runs = new Runs();
@@ -83,7 +85,8 @@ public final class PathTest {
       isPath[numberOf(path)] = true;
     }
     ScopeKeeper keeper = new ScopeKeeper();
-    for (int number = -MOST_CALLS; number < isPath.length + BASE * BASE; number++) {
+    // The numbers behind are enough to have five letters, the last of them 1.
+    for (int number = -BASE * BASE; number < 2 * isPath.length; number++) {
       if (number % MOST_CALLS == 0) {
         keeper = new ScopeKeeper();
       }

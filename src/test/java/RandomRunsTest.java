@@ -5,7 +5,8 @@ import java.util.List;
  * Long runs of calls, the same ones each time. After each call it looks at what must hold in
  * every state, that a refused call threw what the document names for it and changed nothing,
  * that the trace tells the states of all workers and which jobs ended, and that its count grows
- * by all that happened, kept or not.
+ * by all that happened, kept or not. With all that is asked, an object gets more calls here than
+ * the 512 that the document speaks of: the class has no such limit, so none is kept to.
  */
 public final class RandomRunsTest {
   private static final int RUNS = 400;
