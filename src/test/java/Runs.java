@@ -83,13 +83,16 @@ final class Runs {
     }
   }
 
-  /** What the call answers, as a line tells it: "= 3", "= null" for nothing, or "throws E". */
-  static String answer(ScopeKeeper keeper, String call) {
+  /**
+   * What the call on a ScopeKeeper, or on what has its methods, answers, as a line tells it: "= 3",
+   * "= null" for nothing, or "throws E".
+   */
+  static String answer(Object keeper, String call) {
     String name = call.substring(0, call.indexOf('('));
     String inner = call.substring(name.length() + 1, call.length() - 1).trim();
     String[] words = inner.isEmpty() ? new String[0] : inner.split("\\s*,\\s*");
     try {
-      Method method = methodNamed(name);
+      Method method = methodNamed(keeper, name);
       Object[] arguments = new Object[words.length];
       for (int i = 0; i < words.length; i++) {
         arguments[i] = method.getParameterTypes()[i] == boolean.class
@@ -103,8 +106,8 @@ final class Runs {
     }
   }
 
-  private static Method methodNamed(String name) {
-    for (Method method : ScopeKeeper.class.getMethods()) {
+  private static Method methodNamed(Object keeper, String name) {
+    for (Method method : keeper.getClass().getMethods()) {
       if (method.getName().equals(name)) {
         return method;
       }
