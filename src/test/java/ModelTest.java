@@ -21,7 +21,6 @@ public final class ModelTest {
     Integer.MAX_VALUE};
   private static final String[] CALLED = {"serve", "network", "job", "step", "open", "close",
     "claim", "skip", "fetch", "registration", "worker", "outcome", "trace", "count"};
-  private static final int SERVE = 0;
   private static final int JOB = 2;
   private static final int STEP = 3;
   private static final int FIRST_ASKED = 9;
@@ -31,6 +30,8 @@ public final class ModelTest {
   private final Random random;
   private final List<Integer> scopes = new ArrayList<>();
   private final int[] weights = new int[CALLED.length];
+  /** Only a run that does little but register comes to the most workers, and on from there. */
+  private final boolean hurried;
   private final int oddly;
   private final int contents;
   private final int downs;
@@ -58,7 +59,7 @@ public final class ModelTest {
 
   private ModelTest(int run) {
     random = new Random(run);
-    boolean hurried = run % 3 == 0;
+    hurried = run % 4 == 0;
     int scopeCount = 1 + random.nextInt(hurried ? 2 : 7);
     for (int i = 0; i < scopeCount; i++) {
       scopes.add(oneOf(PATHS));
@@ -68,13 +69,11 @@ public final class ModelTest {
     }
     // Most jobs take two steps, and a run that does not take them soon fills its rows.
     weights[STEP] += weights[JOB] + random.nextInt(8);
-    // Only a run that does little else comes to the most workers and jobs.
-    weights[SERVE] += hurried ? 10 : 0;
-    weights[JOB] += hurried ? 15 : 0;
-    weights[STEP] += hurried ? 30 : 0;
+    weights[JOB] += hurried ? 20 : 0;
+    weights[STEP] += hurried ? 40 : 0;
     oddly = 1 + random.nextInt(40);
-    contents = hurried ? 1000 : 1 + random.nextInt(4);
-    downs = 2 + random.nextInt(hurried ? 40 : 9);
+    contents = 1 + random.nextInt(4);
+    downs = hurried ? 100 : 2 + random.nextInt(9);
     flaws = 1 + random.nextInt(9);
   }
 
@@ -82,7 +81,7 @@ public final class ModelTest {
     ScopeKeeper keeper = new ScopeKeeper();
     Model model = new Model();
     List<String> calls = new ArrayList<>();
-    int doing = 30 + random.nextInt(CALLS - 60);
+    int doing = hurried ? CALLS - 100 : 30 + random.nextInt(CALLS - 60);
     for (int i = 0; i < CALLS; i++) {
       String call = someCall(i < doing ? 0 : FIRST_ASKED);
       calls.add(call);
@@ -149,7 +148,7 @@ public final class ModelTest {
   }
 
   private int kind() {
-    return random.nextInt(3) == 0 ? below(3) : random.nextInt(2);
+    return random.nextInt(hurried ? 9 : 3) == 0 ? below(3) : random.nextInt(hurried ? 1 : 2);
   }
 
   private int flaw() {
@@ -157,7 +156,7 @@ public final class ModelTest {
   }
 
   private int broad() {
-    return isOdd() ? path() : random.nextInt(5) == 0 ? scope() : 0;
+    return isOdd() ? path() : !hurried && random.nextInt(5) == 0 ? scope() : 0;
   }
 
   private int scope() {
